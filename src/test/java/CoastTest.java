@@ -307,6 +307,11 @@ public final class CoastTest {
         check.due("strongest 2", x.cell(2, 3), 2);
         x.turn(1, 9);
         check.due("strongest of like ones", x.cell(1, 3), 0);
+        x.turn(0, 11);
+        x.turn(2, 0);
+        check.due("bears 1 alone", x.cell(2, 3), 0);
+        x.turn(0, 10);
+        check.due("bears none", x.cell(2, 3), NONE);
         check.due("cell -1", x.cell(-1, 9), UNKNOWN);
         check.due("cell 3", x.cell(3, 0), UNKNOWN);
         check.due("what -1", x.cell(0, -1), OUTSIDE);

@@ -136,6 +136,20 @@ public final class SeenTest {
         late.sit(1, 1);
         // at cell 0 tower 1 bears any from the 9th hour on (5 of 3, then 2 each: 15 + 8 = 23)
         check.due("cell 0 behind 8", late.look(), 8);
+        GurdyTide weak = Check.on("c0,0;t1 20;t1 20;p1;p2;");
+        weak.sit(0, 0);
+        weak.sit(1, 1);
+        // neither is ever wound to more than 15: cell 0 stays as it is
+        check.due("cell 1 behind 1", weak.look(), 101);
+        GurdyTide six = Check.on("c0,0;t0 1;t0 1;t0 1;t0 1;t0 1;t0 1;p1;p2;p3;p4;p5;p6;");
+        for (int p = 0; p < 6; p++) {
+            six.sit(p, 5 - p);
+        }
+        check.due("all six", six.told(14), 63);
+        check.due("all six parted", six.look(), 1);
+        // 21 less the arm of who sleeps
+        six.mark(0, 1, 17);
+        check.due("he of arm 4", six.told(14), 8);
     }
 
     private static void seeing() {
@@ -279,6 +293,7 @@ public final class SeenTest {
         check.due("undo", x.undo(), 0);
         x.turn(0, 33);
         check.due("again", x.goBack(1), 1);
+        check.due("what was done since cannot be undone", x.told(18), 0);
         check.due("wound", x.tower(0, 2), 0);
         check.due("seed", x.seed(1), 1234);
         check.due("go to the other", x.goBack(0), 1);

@@ -105,6 +105,8 @@ public final class TriedTest {
         // left alone it is 96 behind an hour: 86 above the ground
         plan(x, 0, 86, 1, 0, NONE, NONE);
         plan(x, 0, 87, 1, 1, 0, NONE);
+        plan(x, 0, 83, 2, 0, NONE, NONE);
+        plan(x, 0, 84, 2, 1, 0, NONE);
     }
 
     /** p0 is due for player 0, p1 for player 1. */
@@ -153,6 +155,7 @@ public final class TriedTest {
         plan(x, 0, 2, 1, 1, 0, NONE);
         // 2 each of five hours, then 1
         plan(x, 0, 11, 6, 1, 0, NONE);
+        plan(x, 0, 12, 6, 1, NONE, 0);
         x.sleep(1, true);
         plan(x, 0, 4, 1, NONE, NONE, NONE);
         x.sleep(0, true);
@@ -227,6 +230,10 @@ public final class TriedTest {
         // the ground of the dry cell is 0
         check.due("of a dry cell", flat.share(50, 0), 0);
         check.due("left over", flat.share(50, NONE), 50);
+        flat.turn(0, 1);
+        // now the cell of ground 1 is dry: the sea is 1 there, the depth 0
+        check.due("all to one", flat.share(50, 2), 50);
+        check.due("nothing left over", flat.share(50, NONE), 0);
     }
 
     private static void calm() {
