@@ -1142,7 +1142,7 @@ public final class GurdyTide {
         final int[] best = new int[MOST_PLAYERS];
         private final int[] tried = new int[MOST_PLAYERS];
         private final int[][] gain = new int[MOST_PLAYERS][MOST_TOWERS];
-        private final int[] mostGain = new int[MOST_PLAYERS + 1];
+        private final int[][] mostGain = new int[MOST_PLAYERS + 1][MOST_PLAYERS + 1];
         private int leastArms;
         private int need;
 
@@ -1176,14 +1176,23 @@ public final class GurdyTide {
 
         /** No player changes what another's tower bears, so each pair's part can be counted alone. */
         private void noteGains(Coast coast, State now, int c, int n) {
-            mostGain[coast.players] = 0;
+            Arrays.fill(mostGain[coast.players], 0);
             for (int p = coast.players - 1; p >= 0; p--) {
-                mostGain[p] = mostGain[p + 1];
+                int most = 0;
                 for (int t = 0; t < coast.towers; t++) {
                     int alone = coast.bears(t, letDown(now.wound[t], n), c);
                     gain[p][t] = coast.bears(t, woundBy(coast, now, p, t, n), c) - alone;
-                    mostGain[p] = Math.max(mostGain[p], gain[p][t]);
+                    most = Math.max(most, gain[p][t]);
                 }
+                noteMostGain(p, most);
+            }
+        }
+
+        /** mostGain[p][k]: what k of the players from p on could gain, if each had the tower he is best at. */
+        private void noteMostGain(int p, int most) {
+            mostGain[p][0] = 0;
+            for (int k = 1; k <= MOST_PLAYERS; k++) {
+                mostGain[p][k] = Math.max(mostGain[p + 1][k], mostGain[p + 1][k - 1] + most);
             }
         }
 
@@ -1200,10 +1209,11 @@ public final class GurdyTide {
 
         /**
          * Tries all plans in which so many as are left of the players from p on sit. They come in the document's
-         * order, so that a later one is better only if its arms are less.
+         * order, so that a later one is better only if its arms are less. Nobody sits who gains nothing: without him
+         * the plan would be smaller, and smaller ones have been tried.
          */
         private static void seatFrom(Plan plan, Coast coast, int p, int taken, int left, int arms, int gained) {
-            if (arms >= plan.leastArms || gained + left * plan.mostGain[p] < plan.need) {
+            if (arms >= plan.leastArms || gained + plan.mostGain[p][left] < plan.need) {
                 return;
             }
             if (left == 0) {
@@ -1214,7 +1224,7 @@ public final class GurdyTide {
                 return;
             }
             for (int t = 0; t < coast.towers; t++) {
-                if ((taken >> t & 1) == 0) {
+                if ((taken >> t & 1) == 0 && plan.gain[p][t] > 0) {
                     plan.tried[p] = t;
                     seatFrom(plan, coast, p + 1, taken | 1 << t, left - 1, arms + coast.arm[p], gained + plan.gain[p][t]);
                 }
