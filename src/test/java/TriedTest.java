@@ -140,6 +140,13 @@ public final class TriedTest {
         GurdyTide w = Check.on("c0,0;t0 20;t1 20;p2;");
         check.due("one tower is near", w.seats(1, 2, 1, 0), 1);
         check.due("one player", w.seats(1, 3, 1, NONE), NONE);
+        GurdyTide ones = Check.on("c0,0;t0 1;t0 1;t0 1;t0 1;t0 1;t0 1;p1;p1;p1;p1;p1;p1;");
+        for (int d = 0; d <= 7; d++) {
+            check.due("each winds 1", ones.seats(0, d, 1, NONE), d == 7 ? NONE : d);
+        }
+        for (int p = 0; p < 6; p++) {
+            check.due("all six sit", ones.seats(0, 6, 1, p), p);
+        }
         GurdyTide v = Check.on("c0,7;");
         check.due("nobody", v.seats(1, 0, 20, NONE), 0);
         check.due("nobody", v.seats(1, 1, 20, NONE), NONE);
