@@ -11,6 +11,7 @@ final class EdgeCalls {
         feed();
         coastEmptiesTheText();
         coastMakesAllAnew();
+        coastKeepsNothingOfOthers();
         coastWithAFault();
         fault();
         told();
@@ -121,6 +122,24 @@ final class EdgeCalls {
         edges.due("who sits", z.told(11), 0);
         edges.due("who sleeps", z.told(12), 0);
         edges.due("no cell 2", z.cell(2, 0), Edges.UNKNOWN);
+    }
+
+    private void coastKeepsNothingOfOthers() {
+        edges.of("Promise 3", "THE TEXT (it is empty then, with a FAULT, too) becomes THE COAST");
+        String[] others = {"c5,5,5;t0 1;t1 1;p1;p2;b1 0 1;b2 0 1;", "c5,5,5;t0 1;t1 1;p1;p2;b1 0 1;b2 0 1;x"};
+        for (String other : others) {
+            GurdyTide x = new GurdyTide();
+            for (int i = 0; i < 3; i++) {
+                Check.feed(x, other);
+                x.coast();
+                Check.feed(x, "c0,0;");
+                edges.due("two cells behind " + other, x.coast(), 2);
+                edges.same("no more than these", Picture.of(x), Picture.of(Check.on("c0,0;")));
+            }
+            Check.feed(x, "c0,0;t1 9;p9;b9 1 0;");
+            x.coast();
+            edges.same("one of each", Picture.of(x), Picture.of(Check.on("c0,0;t1 9;p9;b9 1 0;")));
+        }
     }
 
     private void coastWithAFault() {

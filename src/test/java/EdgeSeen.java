@@ -187,10 +187,22 @@ final class EdgeSeen {
         four.mark(2, 1, 1);
         edges.due("these slept", four.told(14), 12);
         edges.due("never told apart", four.look(), Edges.NONE);
+        edges.due("six: one each", six("p1;p2;p3;p4;p5;p6;").look(), 1);
+        edges.due("six that are alike", six("p5;p5;p5;p5;p5;p5;").look(), Edges.NONE);
+        edges.due("six: five and one", six("p5;p5;p5;p5;p5;p6;").look(), 1);
         four.tear();
         four.mark(2, 1, 2);
         edges.due("these slept", four.told(14), 3);
         edges.due("told apart at 0", four.look(), 1);
+    }
+
+    /** Six sit at six towers in one cell. */
+    private static GurdyTide six(String players) {
+        GurdyTide x = Check.on("c0,0;t0 1;t0 1;t0 1;t0 1;t0 1;t0 1;" + players);
+        for (int p = 0; p < 6; p++) {
+            x.sit(p, p);
+        }
+        return x;
     }
 
     private void lookOfLikeOnes() {
@@ -390,7 +402,9 @@ final class EdgeSeen {
         edges.due("0 wakes", drawn(9, true, false).told(12), 2);
         edges.due("0 is awake already", drawn(9, false, false).told(12), 0);
         edges.due("1 wakes", drawn(12, true, false).told(12), 1);
-        edges.due("he sits still", drawn(0, false, true).told(11), 3);
+        edges.due("who sleeps sits still", drawn(0, false, true).told(11), 3);
+        edges.due("who wakes sits still", drawn(9, true, true).told(11), 3);
+        edges.due("who wakes sits still", drawn(12, true, true).told(11), 3);
         edges.due("two draws", seedOf(drawn(0, false, false)), 1406932606);
         edges.due("two draws", seedOf(drawn(9, false, false)), 731087919);
     }

@@ -18,6 +18,7 @@ final class EdgeText {
         arms();
         boats();
         draughts();
+        theGreatestCoast();
         figures();
         words();
         blanks();
@@ -145,6 +146,35 @@ final class EdgeText {
         edges.text("c0,0;b1 1 0;", 2, Edges.NONE);
         edges.due("draught", Check.on("c0,0;b1 0 1;").boat(0, 0), 1);
         edges.due("draught", Check.on("c0,0;b30 0 1;").boat(0, 0), 30);
+    }
+
+    private void theGreatestCoast() {
+        edges.of(PART, "4 BOATS at most");
+        GurdyTide x = Check.on("c0,0,0,0,0,0,0,0,0,0;" + many("t9 1;", 6) + many("p1;", 6) + many("b30 9 0;", 4));
+        edges.due("all six must sit", x.seats(9, 6, 1, Edges.NONE), 6);
+        edges.due("the last at the last", x.seats(9, 6, 1, 5), 5);
+        for (int p = 0; p < 6; p++) {
+            edges.due("sit", x.sit(p, 5 - p), Edges.NONE);
+        }
+        // each winds 5 in five hours, and then no more
+        edges.due("sea", x.sea(9, 100, 0), 30);
+        edges.due("deepest", x.deepest(9, 100, 0), 5);
+        edges.due("30 deep where it is, 24 ahead", x.comes(3), Edges.NONE);
+        edges.due("slept", x.told(14), 63);
+        edges.due("all are alike", x.look(), Edges.NONE);
+        edges.due("leave", x.leave(0), 0);
+        edges.due("strongest", x.cell(9, 3), Edges.NONE);
+        x.hour(5);
+        edges.due("strongest", x.cell(9, 3), 0);
+        edges.due("none is aground", x.told(9), 0);
+        edges.due("slope", x.told(6), 6);
+        edges.due("its cell", x.told(7), 4);
+        edges.due("leave, how much", x.leave(1), 5);
+        edges.due("drift", x.drift(60), 65);
+        edges.due("undo", x.undo(), 7);
+        edges.due("keep", x.keep(1), 1);
+        edges.due("goBack", x.goBack(1), 1);
+        edges.due("send", x.send(3), 9);
     }
 
     private void figures() {

@@ -433,6 +433,12 @@ final class EdgeTried {
         x.turn(1, 2);
         edges.due("1, 2 and 2", x.cell(0, 3), 1);
         edges.due("no towers", Check.on("c0,0;").cell(1, 3), Edges.NONE);
+        GurdyTide six = Check.on("c0,0;t0 1;t0 1;t0 1;t0 1;t0 1;t0 1;");
+        edges.due("none of six", six.cell(1, 3), Edges.NONE);
+        for (int t = 0; t < 6; t++) {
+            six.turn(t, 10 + t);
+            edges.due("the latest of six", six.cell(1, 3), t);
+        }
     }
 
     private void shares() {
@@ -464,6 +470,9 @@ final class EdgeTried {
         GurdyTide flat = Check.on("c0,0,0;t0 1;");
         edges.due("all ground is 0", flat.share(999, 0), 0);
         edges.due("all is left over", flat.share(999, Edges.NONE), 999);
+        GurdyTide least = Check.on("c0,1,0;t0 1;");
+        edges.due("all ground together is 1", least.share(999, 1), 999);
+        edges.due("nothing is left over", least.share(999, Edges.NONE), 0);
         GurdyTide x = Check.on("c7,7,7;t1 1;");
         edges.due("1 of three: cut", x.share(1, 2), 0);
         edges.due("1 left over", x.share(1, Edges.NONE), 1);
