@@ -19,6 +19,7 @@ public final class GurdyTide {
     private static final int MOST_WOUND = 99;
     private static final int MOST_TIRED = 99;
     private static final int MOST_SEA = 999;
+    private static final int MOST_SEED = 2147483647;
     private static final int MOST_DEPTH_ASKED = 99;
     private static final int MOST_PENCE = 999;
     private static final int MOST_HOURS_DONE = 60;
@@ -414,7 +415,7 @@ public final class GurdyTide {
     // ---- draws, images
 
     public int seed(int v) {
-        if (v < 0) {
+        if (!within(v, 0, MOST_SEED)) {
             return OUTSIDE;
         }
         int was = draws.seed;
@@ -919,7 +920,8 @@ public final class GurdyTide {
 
         /** A DRAW of n; 0 if there are none to draw of. */
         private int next(int n) {
-            seed = (int) ((seed * 1103515245L + 12345L) & Integer.MAX_VALUE);
+            // the bits of MOST_SEED are what is left over by 2 to the 31
+            seed = (int) ((seed * 1103515245L + 12345L) & MOST_SEED);
             return n <= 0 ? 0 : seed / 65536 % n;
         }
 
@@ -1139,6 +1141,9 @@ public final class GurdyTide {
 
     /** SEATS: who must sit where. */
     private static final class Plan {
+        /** More than all ARMS together: no plan has been found. */
+        private static final int NO_ARMS_YET = MOST_PLAYERS * MOST_ARM + 1;
+
         final int[] best = new int[MOST_PLAYERS];
         private final int[] tried = new int[MOST_PLAYERS];
         private final int[][] gain = new int[MOST_PLAYERS][MOST_TOWERS];
@@ -1151,11 +1156,11 @@ public final class GurdyTide {
             // DEPTH is never below 0, so 0 needs nobody, however high the GROUND is
             need = d == 0 ? 0 : d + coast.ground[c] - seaIfAllRest(coast, now, c, n);
             noteGains(coast, now, c, n);
-            leastArms = Integer.MAX_VALUE;
+            leastArms = NO_ARMS_YET;
             int sizes = Math.min(coast.players, coast.towers);
             for (int size = 0; size <= sizes; size++) {
                 seatFrom(this, coast, 0, 0, size, 0, 0);
-                if (leastArms != Integer.MAX_VALUE) {
+                if (leastArms != NO_ARMS_YET) {
                     return size;
                 }
             }

@@ -30,6 +30,8 @@ public final class LanguageTest {
         face();
         insideClasses();
         words(bare(source));
+        library(bare(source));
+        nothingMadeByCalls(bare(source));
         methodLengths(source);
         check.end();
     }
@@ -131,28 +133,65 @@ public final class LanguageTest {
         while (imports.find()) {
             check.holds("import " + imports.group(1), imports.group(1).equals("java.util.Arrays"));
         }
-        Matcher calls = Pattern.compile("\\b(Arrays|Math|Integer|Long|System)\\.(\\w+)\\(").matcher(bare);
-        Set<String> known = Set.of("Arrays.fill", "Math.max", "Math.min", "Math.abs", "System.arraycopy");
-        while (calls.find()) {
-            String call = calls.group(1) + "." + calls.group(2);
-            check.holds("the library's " + call, known.contains(call));
-        }
         check.holds("signs 1 to 127", bare.chars().allMatch(i -> i >= 1 && i <= 127));
     }
 
+    /** Rule 4: 'only what stands here'; a constant of the library (Integer.MAX_VALUE) does not stand there. */
+    private static void library(String bare) {
+        Set<String> known = Set.of("Arrays.fill", "Math.max", "Math.min", "Math.abs", "System.arraycopy");
+        Set<String> own = new HashSet<>(Set.of("GurdyTide"));
+        for (Class<?> k : GurdyTide.class.getDeclaredClasses()) {
+            own.add(k.getSimpleName());
+        }
+        Matcher types = Pattern.compile("(?<!java\\.util\\.)\\b([A-Z]\\w*[a-z]\\w*)(\\.\\w+)?").matcher(bare);
+        while (types.find()) {
+            check.holds("the library's " + types.group(), own.contains(types.group(1)) || known.contains(types.group()));
+        }
+    }
+
+    /** Rule 12: rows are made with the object and used again, so no call makes anything. */
+    private static void nothingMadeByCalls(String bare) {
+        boolean inConstructor = false;
+        int found = 0;
+        for (String line : bare.split("\n")) {
+            if (beginsMethod(line)) {
+                inConstructor = line.matches(" *(public |private )?[A-Z]\\w*\\(.*");
+            }
+            if (line.matches(".*\\bnew\\b.*")) {
+                found++;
+                check.holds("made with the object:" + line, inConstructor || line.matches(" *(private|final) .*"));
+            }
+        }
+        check.holds("things are made", found > 0);
+    }
+
+    private static boolean beginsMethod(String line) {
+        return line.matches("( {4}| {8})(?!(if|for|while|switch|do|else)\\b)[A-Za-z].*\\) \\{");
+    }
+
+    /** Rule 11; a method ends where a brace stands as far in as its own first line. */
     private static void methodLengths(String source) {
         int began = 0;
         int nth = 0;
+        int found = 0;
+        String end = "";
         for (String line : source.split("\n")) {
             nth++;
-            if (line.matches("( {4}| {8})[^ ].*\\) \\{")) {
+            if (beginsMethod(line)) {
                 began = nth;
+                end = line.replaceAll("[^ ].*", "}");
             }
-            if (line.matches("( {4}| {8})\\}") && began != 0) {
+            if (line.equals(end) && began != 0) {
                 check.holds("the method at line " + began + " is short", nth - began < 60);
+                found++;
                 began = 0;
             }
         }
-        check.holds("methods were found", nth > 100);
+        int due = 0;
+        for (Class<?> k : GurdyTide.class.getDeclaredClasses()) {
+            due += k.getDeclaredMethods().length;
+        }
+        check.due("methods found, with the constructors that are written out", found,
+                due + GurdyTide.class.getDeclaredMethods().length + 2);
     }
 }
