@@ -11,6 +11,7 @@ public final class TriedTest {
         comes();
         seatsPlain();
         seatsOrder();
+        seatsOfMostArms();
         seatsOfTiredAndSleeping();
         seatsRefused();
         leaving();
@@ -150,6 +151,17 @@ public final class TriedTest {
         GurdyTide v = Check.on("c0,7;");
         check.due("nobody", v.seats(1, 0, 20, NONE), 0);
         check.due("nobody", v.seats(1, 1, 20, NONE), NONE);
+    }
+
+    /** Promise 21, SEATS 'of the least ARMS together': six players of ARM 9 are a plan like any other. */
+    private static void seatsOfMostArms() {
+        GurdyTide x = Check.on("c0,0;t0 1;t0 1;t0 1;t0 1;t0 1;t0 1;p9;p9;p9;p9;p9;p9;");
+        check.due("six of 9", x.seats(0, 54, 1, NONE), 6);
+        for (int p = 0; p < 6; p++) {
+            check.due("of six of 9", x.seats(0, 54, 1, p), p);
+        }
+        check.due("five of 9", x.seats(0, 45, 1, NONE), 5);
+        check.due("more than six of 9", x.seats(0, 55, 1, NONE), NONE);
     }
 
     private static void seatsOfTiredAndSleeping() {
